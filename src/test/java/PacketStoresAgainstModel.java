@@ -4,12 +4,18 @@ import java.util.List;
 import java.util.Random;
 
 /**
- * Runs of 512 calls against a model that does what the document says unit by unit; after each call
- * all that can be asked is compared. The seeds are fixed, so each run is the same each time.
+ * Runs of 512 calls against a model that does what the document says unit by unit. Every answer is
+ * compared, and now and then all that can be asked: of new objects with the same calls behind them, so
+ * that none gets more than the 512 calls that are promised. The seeds are fixed, so each run is the same
+ * each time.
  */
 public final class PacketStoresAgainstModel {
     private static final int RUNS = 300;
     private static final int CALLS = 512;
+    private static final int CALLS_BETWEEN_LOOKS = 20;
+    private static final int PORTIONS = 7;
+    private static final List<int[]> QUESTIONS = allQuestions();
+    private static final int CALLS_BEFORE_LOOKS = CALLS - QUESTIONS.size() / PORTIONS - 1;
     private static final long MOST = 2_000_000_000L;
 
     private static final int INDEX = -101;
@@ -360,26 +366,56 @@ public final class PacketStoresAgainstModel {
         return a;
     }
 
-    private static String difference(PacketStores x, Model m) {
+    /** Each as the method and its arguments. */
+    private static List<int[]> allQuestions() {
+        List<int[]> all = new ArrayList<>();
         for (int where = 0; where < 24; where++) {
             for (int k = 0; k < (where < 8 ? 4 : 1); k++) {
-                if (x.units(where, k) != m.units(where, k)) return "units(" + where + ", " + k + ")";
+                all.add(new int[] {13, where, k});
                 for (int j = 0; j < 9; j++) {
                     for (int what = 0; what < 3; what++) {
-                        if (x.packet(where, k, j, what) != m.packet(where, k, j, what)) {
-                            return "packet(" + where + ", " + k + ", " + j + ", " + what + ")";
-                        }
+                        all.add(new int[] {12, where, k, j, what});
                     }
                 }
             }
         }
         for (int k = 0; k < 4; k++) {
             for (int what = 0; what < 5; what++) {
-                if (x.count(k, what) != m.count(k, what)) return "count(" + k + ", " + what + ")";
+                all.add(new int[] {14, k, what});
             }
         }
         for (int what = 0; what < 4; what++) {
-            if (x.sum(what) != m.sum(what)) return "sum(" + what + ")";
+            all.add(new int[] {15, what});
+        }
+        return all;
+    }
+
+    private static int[] arguments(int[] call) {
+        return Arrays.copyOfRange(call, 1, call.length);
+    }
+
+    private static String name(int[] call) {
+        return NAMES[call[0]] + Arrays.toString(arguments(call));
+    }
+
+    private static PacketStores after(List<int[]> calls) {
+        PacketStores x = new PacketStores();
+        for (int[] call : calls) {
+            answer(x, call[0], arguments(call));
+        }
+        return x;
+    }
+
+    /** The first question whose answer is wrong after these calls, or nothing. */
+    private static String wrongQuestion(List<int[]> calls, Model m) {
+        for (int portion = 0; portion < PORTIONS; portion++) {
+            PacketStores x = after(calls);
+            for (int q = portion; q < QUESTIONS.size(); q += PORTIONS) {
+                int[] question = QUESTIONS.get(q);
+                if (answer(x, question[0], arguments(question)) != m.answer(question[0], arguments(question))) {
+                    return name(question);
+                }
+            }
         }
         return "";
     }
@@ -388,20 +424,27 @@ public final class PacketStoresAgainstModel {
         Random random = new Random(seed);
         PacketStores x = new PacketStores();
         Model m = new Model();
-        for (int i = 0; i < CALLS; i++) {
+        List<int[]> calls = new ArrayList<>();
+        for (int i = 1; i <= CALLS; i++) {
             int method = pickMethod(random);
             int[] a = pickArguments(random, method, seed % 2 == 0);
+            int[] call = new int[a.length + 1];
+            call[0] = method;
+            System.arraycopy(a, 0, call, 1, a.length);
+            calls.add(call);
             int got = answer(x, method, a);
             int want = m.answer(method, a);
-            String where = "run " + seed + ", call " + i + ": " + NAMES[method] + Arrays.toString(a);
             if (got != want) {
-                System.out.println(where + " answered " + got + ", due is " + want);
+                System.out.println("run " + seed + ", call " + i + ": " + name(call) + " answered " + got
+                    + ", due is " + want);
                 return false;
             }
-            String different = difference(x, m);
-            if (!different.isEmpty()) {
-                System.out.println(where + " left a wrong " + different);
-                return false;
+            if (i % CALLS_BETWEEN_LOOKS == 0 && i <= CALLS_BEFORE_LOOKS) {
+                String question = wrongQuestion(calls, m);
+                if (!question.isEmpty()) {
+                    System.out.println("run " + seed + ", after " + i + " calls: wrong answer of " + question);
+                    return false;
+                }
             }
             seen[method][want == INDEX ? 0 : want == ARGUMENT ? 1 : want == 0 ? 2 : 3]++;
         }
